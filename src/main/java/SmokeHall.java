@@ -448,14 +448,17 @@ public final class SmokeHall {
         return told.blocks == 0;
     }
 
-    /** The state behind another, of the frozen trial: any ballot but the first one does, as no strike tells them apart. */
+    /**
+     * The state behind another, of the trial with its strikes frozen, so that any ballot does. Even ahead of all ballots
+     * it need not be the first one: where nothing is written, each move is as firm.
+     */
     private int stateAfter(int state) {
         trial.takeState(trialTold, state);
         trial.write(trialTold, 1, 0);
         return trial.state();
     }
 
-    /** How long the loop is that a state runs into (Brent's way: it needs no memory of states). */
+    /** How long the loop is that a state runs into. Brent's way, as it keeps no list of states. */
     private int loopFrom(int start) {
         int resting = start;
         int running = stateAfter(start);
@@ -582,7 +585,7 @@ public final class SmokeHall {
             }
         }
 
-        /** How many blocks the tape tells, which a hall takes, or a fault. */
+        /** How many blocks the tape tells, or a fault; what it tells is put down as it is read. */
         int read(Told into) {
             at = 0;
             lotBlocks = 0;

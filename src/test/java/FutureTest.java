@@ -144,8 +144,10 @@ public final class FutureTest {
         }
         due("nothing again and again: tail", x.ring(0), 0);
         due("loop", x.ring(1), 1);
-        x = Checks.of("1o1:ab;1o2:bc;1o3:abc;1o4:cab;1o5:bca;1o0:cba");
-        due("a ring of six", x.ring(1) > 0 ? 1 : 0, 1);
+        x = Checks.of("1o1:ab;1o2:ab;1o3:ab;1o4:ab;1o5:ab;1o0:ba");
+        // one b goes round among six
+        due("a ring of six: tail", x.ring(0), 1);
+        due("loop", x.ring(1), 6);
         x = Checks.of("2f:ab;2f:ba");
         x.strike(0, 31);
         x.ballots(32);
@@ -234,6 +236,8 @@ public final class FutureTest {
         x.bar(0, 3, 5);
         due("nine of them", x.makes(0, 0), 5);
         due("stops: seven of fifteen", x.stops(0), 5);
+        x.bar(0, 1, 5);
+        due("the first alone", x.makes(0, 0), 1);
         x.bar(0, 2, 3);
         due("stops: six of fifteen", x.stops(0), 3);
     }
@@ -261,6 +265,8 @@ public final class FutureTest {
         due("a ring of names", x.beats(0), NONE);
         x = Checks.of("2f:ab;2f:ba");
         due("even is not more", x.beats(0), NONE);
+        x = Checks.of("2f:ab;3f:ba");
+        due("one more is more", x.beats(0), 1);
     }
 
     private static void promise24() {
@@ -299,6 +305,15 @@ public final class FutureTest {
         // waiting is told from the beginning, wherever the hall is
         x.ballots(2);
         due("b, by waiting one", x.waits(1, 0), 1);
+        x = Checks.of("4n:cb;3o0:bac");
+        x.strike(2, 5);
+        // by itself c7 by ballot 1, and so by ballot w + 1 as long as c is alive then; four make that 5: b7
+        due("c", x.ends(0), 2);
+        due("b, by waiting four", x.waits(1, 0), 4);
+        due("its first", x.waits(1, 1), 0);
+        x.strike(2, 6);
+        due("five would be too many", x.waits(1, 0), 0);
+        due("its third", x.waits(1, 1), 2);
         lotsOfWaiters();
     }
 
@@ -330,7 +345,27 @@ public final class FutureTest {
         x = Checks.of("5f:ab;4f:b;9f:c;9f:d");
         bars(x, 1, 1);
         due("whoever goes, not all have one name", x.aside(0), NONE);
+        x = Checks.of("3l:bca;3f:a");
+        bars(x, 1, 1);
+        // b from 0 on: c3 a3 for ever; b from 1 on: of c0 and a3 it is a
+        due("b", x.aside(0), 1);
+        due("from 1", x.aside(1), 1);
+        due("ends by 1", x.aside(2), 1);
         laterAside();
+        asideByLots();
+    }
+
+    /** As the last hall, but the block goes to the leader in one ballot alone: b must be struck in just that. */
+    private static void asideByLots() {
+        SmokeHall x = Checks.of("3k1:bca;3f:a");
+        bars(x, 1, 1);
+        Checks.luck(x, 3, 3, 3, 3, 3, 3, 0, 3, 3, 3, 3, 3, 3, 3, 3, 3);
+        due("b", x.aside(0), 1);
+        due("from 7", x.aside(1), 7);
+        due("ends by 7", x.aside(2), 7);
+        x.lot(6, 3);
+        x.lot(7, 0);
+        due("from 8 is no more asked", x.aside(0), NONE);
     }
 
     private static void laterAside() {
@@ -390,6 +425,12 @@ public final class FutureTest {
         bars(x, 9, 12);
         // b9 by itself; da changed round, ab changed round: b9; bc changed round: c9
         due("the third place", x.edge(0), 2);
+        x = Checks.of("6f:deabc;3f:c;3f:b");
+        x.strike(3, 0);
+        x.strike(4, 0);
+        x.strike(0, 0);
+        bars(x, 9, 12);
+        due("the fourth place", x.edge(0), 3);
     }
 
     private static void promise27() {
@@ -403,6 +444,9 @@ public final class FutureTest {
             due("four", x.judge(lane, lane, 1, 4), 2);
             due("moved by one", x.judge(lane, lane, 0, 4), 0);
             due("moved by five", x.judge(lane, lane, 6, 1), 0);
+            x.item(lane, lane, 1, 8);
+            due("the first of the first", x.judge(lane, lane, 1, 2), 0);
+            x.item(lane, lane, 1, 7);
             x.item(lane, lane, 10, 1);
             due("the last of the second", x.judge(lane, lane, 1, 2), 1);
             x.item(lane, lane, 10, 256);

@@ -4,6 +4,12 @@ import java.util.Random;
 public final class ModelTest {
     private static final int RUNS = 600;
     private static final int CALLS = 512;
+    private static final String[] WIDE = {
+        "2k3:eacbd;3n:bdeac;3n:bdcea;1k3:dcbea;4n:cdaeb;3o0:caedb",
+        "10o3:db;5n:cdbae;2k3:bcdae;10n:abcd;13o5:acdeb;2k3:cdeab",
+        "2k1:cadeb;1k2:aedbc;4n:dabce;12n:becda;11o1:dea;3o0:badce",
+        "4k1:acbde;1o0:eacdb;3n:badce;2k1:ebcad;13o1:bcade;12o3:dba"};
+    private static final int[] BARS = {11, 9, 10, 10};
 
     private static int wrong = 0;
 
@@ -296,10 +302,25 @@ public final class ModelTest {
         }
     }
 
+    /** Halls whose chances have more states than the class has room for at first. */
+    private void wideHall(String text, int p) {
+        typeText(text);
+        for (int day = 0; day < 8; day++) {
+            same("bar", x.bar(day, p, 12), m.bar(day, p, 12));
+        }
+        for (int name = 0; name < 5; name++) {
+            same("chance(" + name + ", 12, 0)", x.chance(name, 12, 0), m.chance(name, 12, 0));
+            same("chance(" + name + ", 12, 1)", x.chance(name, 12, 1), m.chance(name, 12, 1));
+        }
+    }
+
     public static void main(String[] args) {
         int runs = args.length > 0 ? Integer.parseInt(args[0]) : RUNS;
         for (int seed = 0; seed < runs && wrong == 0; seed++) {
             new ModelTest(seed).run();
+        }
+        for (int i = 0; i < WIDE.length && wrong == 0; i++) {
+            new ModelTest(i).wideHall(WIDE[i], BARS[i]);
         }
         System.out.println(wrong == 0 ? "ModelTest: " + runs + " runs, all as the model" : "ModelTest: not as the model");
         if (wrong != 0) {
