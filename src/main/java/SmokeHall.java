@@ -97,7 +97,8 @@ public final class SmokeHall {
     }
 
     public int order(int block, int i) {
-        if (!isBlock(block)) {
+        // below 0 there is no place in any order; too far on there is merely none in this one
+        if (!isBlock(block) || i < 0) {
             return BAD;
         }
         return orNone(told.nameAt(block, i));

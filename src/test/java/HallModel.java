@@ -375,11 +375,11 @@ final class HallModel {
     }
 
     int order(int b, int i) {
-        if (!isBlock(b)) {
+        if (!isBlock(b) || i < 0) {
             return BAD;
         }
         List<Integer> order = now.blocks.get(b).order;
-        return in(i, 0, order.size() - 1) ? order.get(i) : NONE;
+        return i < order.size() ? order.get(i) : NONE;
     }
 
     int bar(int day, int p, int q) {

@@ -178,6 +178,13 @@ public final class HallTest {
         due("order ends", x.order(0, 2), SmokeHall.NONE);
         due("no such place", x.order(3, 5), SmokeHall.NONE);
         due("no such place", x.order(3, HIGH), SmokeHall.NONE);
+        for (int i : new int[] {-1, -2, -5, LOW}) {
+            for (int b = 0; b < 5; b++) {
+                due("a place below 0", x.order(b, i), SmokeHall.BAD);
+            }
+            due("a place below 0, no block", x.order(5, i), SmokeHall.BAD);
+            due("a place below 0, an empty hall", new SmokeHall().order(0, i), SmokeHall.BAD);
+        }
         for (int b : new int[] {-1, 5, 6, LOW, HIGH}) {
             due("no block", x.block(b, 0), SmokeHall.BAD);
             due("no block", x.order(b, 0), SmokeHall.BAD);
