@@ -63,6 +63,15 @@ final class Checks {
         }
     }
 
+    static void bars(SmokeHall x, int p, int q) {
+        for (int day = 0; day < 8; day++) {
+            if (x.bar(day, p, q) < 0) {
+                wrong++;
+                System.out.println("no bar: " + p + " / " + q);
+            }
+        }
+    }
+
     /** All that can be seen but sheets and the tape; what can be read by setting alone is set back. */
     static String seen(SmokeHall x) {
         StringBuilder all = new StringBuilder();
@@ -90,6 +99,36 @@ final class Checks {
             all.append(' ').append(was);
         }
         return all.toString();
+    }
+
+    /**
+     * All that an object holds, sheets, tape and image too, if each item is a lot. These can be read by using them up
+     * alone, so the object is of no more use behind it; it takes some 330 calls.
+     */
+    static String spent(SmokeHall x) {
+        StringBuilder all = new StringBuilder(seen(x));
+        for (int s = 0; s < 4; s++) {
+            for (int lane = 0; lane < 3; lane++) {
+                all.append("|").append(items(x, s, lane));
+            }
+            all.append('#').append(x.drop(s));
+        }
+        all.append("|tape ").append(x.type(' ', 1)).append(' ').append(x.hall());
+        for (int b = 0; b < x.many(0); b++) {
+            all.append(' ').append(x.block(b, 0)).append(' ').append(x.block(b, 3)).append(' ').append(x.order(b, 0));
+        }
+        all.append("|image ").append(x.restore()).append(' ').append(seen(x));
+        return all.toString();
+    }
+
+    private static String items(SmokeHall x, int sheet, int lane) {
+        StringBuilder items = new StringBuilder();
+        int answer = x.lots(sheet, lane, 0, 1);
+        for (int i = 1; answer == 1; i++) {
+            items.append(x.lot(0, 0)).append(' ');
+            answer = x.lots(sheet, lane, i, 1);
+        }
+        return items.append(answer).toString();
     }
 
     /** A call that must be refused, and change nothing. */

@@ -11,9 +11,7 @@ public final class FutureTest {
     }
 
     private static void bars(SmokeHall x, int p, int q) {
-        for (int day = 0; day < 8; day++) {
-            x.bar(day, p, q);
-        }
+        Checks.bars(x, p, q);
     }
 
     private static void emptyHall() {
@@ -279,9 +277,10 @@ public final class FutureTest {
             due("no block", x.waits(b, 0), BAD);
         }
         x = Checks.of("4n:ab;4f:ba;5n:cb");
-        bars(x, 8, 13);
-        // ballot 0: a4 b4 c5, a is last: ballot 1: b8
+        bars(x, 7, 12);
+        // eight are enough; ballot 0: a4 b4 c5, a is last: ballot 1: b8
         due("b", x.ends(0), 1);
+        due("by ballot 1", x.ends(1), 1);
         // block 0 waits one: b4 c5; ballot 1: a4 b4 c5; ballot 2: a is last and goes to b
         due("waiting is no use to 0", x.waits(0, 0), 0);
         due("its second", x.waits(0, 1), 1);

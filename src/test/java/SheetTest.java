@@ -54,6 +54,60 @@ public final class SheetTest {
         due("lot 0", x.lot(0, 0), 0);
     }
 
+    /** "A SHEET holds a new row of a LANE": all of its items are 0 again, and no other sheet's are. */
+    private static void newRowsOfEachSheet() {
+        for (int s = 0; s < 4; s++) {
+            for (int lane = 0; lane < 3; lane++) {
+                SmokeHall x = new SmokeHall();
+                for (int other = 0; other < 4; other++) {
+                    fill(x, other, lane, 3);
+                }
+                due("a new row", x.sheet(s, lane, 24), 24);
+                for (int other = 0; other < 4; other++) {
+                    due("its first", itemAt(x, other, lane, 0), other == s ? 0 : 3);
+                    due("its 12th", itemAt(x, other, lane, 12), other == s ? 0 : 3);
+                    due("its last", itemAt(x, other, lane, 23), other == s ? 0 : 3);
+                }
+                due("drop", x.drop(s), 24);
+                for (int other = 0; other < 4; other++) {
+                    due("the others stay", itemAt(x, other, lane, 23), other == s ? SmokeHall.NULL : 3);
+                }
+            }
+        }
+    }
+
+    private static void fill(SmokeHall x, int sheet, int lane, int v) {
+        x.sheet(sheet, lane, 24);
+        for (int i = 0; i < 24; i++) {
+            due("item " + i, x.item(sheet, lane, i, v), 1);
+        }
+    }
+
+    private static int itemAt(SmokeHall x, int sheet, int lane, int i) {
+        int taken = x.lots(sheet, lane, i, 1);
+        return taken == 1 ? x.lot(0, 0) : taken;
+    }
+
+    /** "a row of a LANE": a new row may be of another, and a dropped one comes back as nothing but 0. */
+    private static void anotherLane() {
+        SmokeHall x = new SmokeHall();
+        for (int lane = 0; lane < 3; lane++) {
+            due("a row", x.sheet(3, lane, 2), 2);
+            for (int other = 0; other < 3; other++) {
+                int want = other == lane ? 1 : SmokeHall.CAST;
+                due("item", x.item(3, other, 1, 2), want);
+                due("lots", x.lots(3, other, 1, 1), want);
+                due("judge", x.judge(3, other, 0, 1), other == lane ? SmokeHall.INDEX : SmokeHall.CAST);
+            }
+        }
+        due("drop", x.drop(3), 2);
+        due("the same again", x.sheet(3, 2, 2), 2);
+        due("of 0", itemAt(x, 3, 2, 1), 0);
+        due("none is left", x.sheet(3, 2, 0), 0);
+        due("no item", x.item(3, 2, 0, 1), SmokeHall.INDEX);
+        due("drop", x.drop(3), 0);
+    }
+
     private static void promise31() {
         SmokeHall x = new SmokeHall();
         for (int s : OUT_OF_SHEETS) {
@@ -86,12 +140,23 @@ public final class SheetTest {
         keeps(x, 0, 256 + 3, 3);
         keeps(x, 0, -256, 0);
         keeps(x, 0, 255, -1);
+        keeps(x, 0, 128, -128);
+        keeps(x, 0, 127, 127);
+        keeps(x, 0, LOW + 1, 1);
+        keeps(x, 0, HIGH, -1);
         keeps(x, 1, 65536 + 2, 2);
         keeps(x, 1, 259, 259);
         keeps(x, 1, 65535, -1);
+        keeps(x, 1, 32768, -32768);
+        keeps(x, 1, -65536, 0);
+        keeps(x, 1, LOW + 1, 1);
+        keeps(x, 1, HIGH, -1);
         keeps(x, 2, 65536 + 2, 65538);
         keeps(x, 2, 3, 3);
         keeps(x, 2, LOW, LOW);
+        keeps(x, 2, LOW + 1, LOW + 1);
+        keeps(x, 2, HIGH, HIGH);
+        keeps(x, 2, 4, 4);
     }
 
     /** An item is 0 .. 3 if and only if it can be taken as a lot. */
@@ -118,6 +183,8 @@ public final class SheetTest {
 
     public static void main(String[] args) {
         promise30();
+        newRowsOfEachSheet();
+        anotherLane();
         promise31();
         promise32();
         greatCounts();
