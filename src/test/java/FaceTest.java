@@ -2,12 +2,10 @@ import java.lang.management.ManagementFactory;
 import java.lang.reflect.Field;
 import java.lang.reflect.Method;
 import java.lang.reflect.Modifier;
-import java.nio.file.Files;
-import java.nio.file.Path;
 import java.util.Set;
 import java.util.TreeSet;
 
-/** The public face, the rules of LANGUAGE.md that can be looked for, and what a run of calls makes. */
+/** The public face, and what a run of calls makes. */
 public final class FaceTest {
     private static final String[] FACE = {
         "int type(long,int)", "int hall()", "int block(int,int)", "int order(int,int)", "int bar(int,int,int)",
@@ -18,10 +16,6 @@ public final class FaceTest {
         "int image()", "int restore()", "int sheet(int,int,int)", "int drop(int)", "int item(int,int,int,int)"};
     private static final String[] CONSTANTS = {"BAD", "NOT", "FULL", "NONE", "NULL", "CAST", "INDEX", "SIZE"};
     private static final int[] VALUES = {-1, -2, -3, -4, -11, -12, -13, -14};
-    private static final String[] FORBIDDEN = {
-        "\\bthrow\\b", "\\bthrows\\b", "\\btry\\b", "\\bcatch\\b", "\\bsynchronized\\b", "\\bassert\\b", "->", "::",
-        "\\bfinally\\b", "\\bvar\\b", "[A-Za-z]Exact\\b", "System\\.(?!arraycopy)", "\\bRandom\\b", "\\bThread\\b",
-        "\"", "\\bpackage\\b"};
 
     private static void due(String what, boolean holds) {
         Checks.due(what, holds ? 1 : 0, 1);
@@ -69,25 +63,6 @@ public final class FaceTest {
         due("classes", SmokeHall.class.getDeclaredClasses().length <= 12);
     }
 
-    private static void source() throws Exception {
-        String text = Files.readString(Path.of("src/main/java/SmokeHall.java"));
-        due("signs below 128", text.chars().allMatch(c -> c < 128));
-        String code = text.replaceAll("(?s)/\\*.*?\\*/", "").replaceAll("//.*", "");
-        for (String word : FORBIDDEN) {
-            due("no " + word, !java.util.regex.Pattern.compile(word).matcher(code).find());
-        }
-        int start = 0;
-        String[] lines = text.split("\n");
-        for (int i = 0; i < lines.length; i++) {
-            if (lines[i].matches(" {4}(?: {4})?[a-z].*\\) \\{")) {
-                start = i;
-            }
-            if (lines[i].matches(" {4}(?: {4})?\\}")) {
-                due("a short method at line " + start, i - start < 60);
-            }
-        }
-    }
-
     /** A thousand dear calls may not make what would fill the room. */
     private static void room() {
         com.sun.management.ThreadMXBean bean = (com.sun.management.ThreadMXBean) ManagementFactory.getThreadMXBean();
@@ -114,7 +89,6 @@ public final class FaceTest {
 
     public static void main(String[] args) throws Exception {
         face();
-        source();
         room();
         Checks.finish("FaceTest");
     }
